@@ -1,0 +1,82 @@
+/** Promises 5 (wall), 6 (source), 7 (sink), 8 (body) and 9 (edge). */
+public final class EdgesTest {
+    private static final Due DUE = new Due();
+
+    public static void main(String[] args) {
+        onAndOff();
+        oneOfThese();
+        sourceRates();
+        DUE.end();
+    }
+
+    private interface Sort {
+        boolean put(SixWayGas gas, boolean on);
+    }
+
+    private static final Sort[] SORTS = {
+        (gas, on) -> gas.wall(2, 3, on),
+        (gas, on) -> {
+            gas.source(2, 3, on ? 17 : 0);
+            return true;
+        },
+        (gas, on) -> gas.sink(2, 3, on),
+        (gas, on) -> gas.body(2, 3, on),
+    };
+
+    private static void onAndOff() {
+        for (int sort = 0; sort < 4; sort++) {
+            boolean tells = sort != 1;
+            SixWayGas gas = new SixWayGas(4, 4);
+            String name = "sort " + sort + " ";
+            DUE.yes(name + "off when it is none", !tells || !SORTS[sort].put(gas, false));
+            DUE.equal(name + "edge then", gas.edge(2, 3), 0);
+            DUE.yes(name + "on", SORTS[sort].put(gas, true));
+            DUE.equal(name + "edge then", gas.edge(2, 3), sort + 1);
+            DUE.yes(name + "on again", !tells || !SORTS[sort].put(gas, true));
+            DUE.equal(name + "edge then", gas.edge(2, 3), sort + 1);
+            DUE.equal(name + "edge elsewhere", gas.edge(3, 2), 0);
+            DUE.yes(name + "off", SORTS[sort].put(gas, false));
+            DUE.equal(name + "edge then", gas.edge(2, 3), 0);
+            DUE.yes(name + "off again", !tells || !SORTS[sort].put(gas, false));
+        }
+    }
+
+    private static void oneOfThese() {
+        for (int is = 0; is < 4; is++) {
+            for (int other = 0; other < 4; other++) {
+                if (is == other) {
+                    continue;
+                }
+                Sort asked = SORTS[other];
+                SixWayGas gas = new SixWayGas(4, 4);
+                SORTS[is].put(gas, true);
+                String name = "sort " + other + " in sort " + is;
+                DUE.badState(name + " on", () -> asked.put(gas, true));
+                DUE.badState(name + " off", () -> asked.put(gas, false));
+                DUE.equal(name + " edge", gas.edge(2, 3), is + 1);
+                SORTS[is].put(gas, false);
+                asked.put(gas, true);
+                DUE.equal(name + " edge behind", gas.edge(2, 3), other + 1);
+            }
+        }
+    }
+
+    private static void sourceRates() {
+        SixWayGas gas = new SixWayGas(4, 4);
+        gas.wall(0, 0, true);
+        for (int rate : new int[] {-1, 257, Integer.MIN_VALUE, Integer.MAX_VALUE}) {
+            DUE.badArgument("source " + rate, () -> gas.source(1, 1, rate));
+            DUE.badArgument("source in a wall " + rate, () -> gas.source(0, 0, rate));
+        }
+        DUE.equal("edge behind refused rates", gas.edge(1, 1), 0);
+        gas.source(1, 1, 1);
+        DUE.equal("edge of rate 1", gas.edge(1, 1), 2);
+        DUE.badArgument("source 257 in a source", () -> gas.source(1, 1, 257));
+        gas.source(1, 1, 256);
+        gas.step(1);
+        DUE.equal("the last rate counts", gas.get(1, 1), 127);
+        gas.source(1, 1, 0);
+        DUE.equal("edge of rate 0", gas.edge(1, 1), 0);
+        DUE.equal("its particles stay", gas.get(1, 1), 127);
+    }
+}

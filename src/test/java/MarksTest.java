@@ -1,0 +1,200 @@
+/** Promises 18 (mark) and 19 (marked). */
+public final class MarksTest {
+    private static final Due DUE = new Due();
+
+    public static void main(String[] args) {
+        numbers();
+        refusedInOrder();
+        lostOnesCount();
+        flightAndWalls();
+        meetings();
+        back();
+        set();
+        sinks();
+        exchange();
+        DUE.end();
+    }
+
+    private static int place(int x, int y, int kind) {
+        return 128 * y + 8 * x + kind;
+    }
+
+    private static void numbers() {
+        SixWayGas gas = new SixWayGas(16, 16);
+        gas.set(15, 15, 127);
+        gas.set(0, 0, 1);
+        DUE.equal("first", gas.mark(15, 15, 6), 0);
+        DUE.equal("second", gas.mark(0, 0, 0), 1);
+        DUE.equal("third", gas.mark(15, 15, 0), 2);
+        DUE.equal("fourth", gas.mark(15, 15, 5), 3);
+        DUE.equal("marked 0", gas.marked(0), place(15, 15, 6));
+        DUE.equal("marked 1", gas.marked(1), 0);
+        DUE.equal("marked 2", gas.marked(2), place(15, 15, 0));
+        DUE.equal("marked 3", gas.marked(3), place(15, 15, 5));
+        DUE.outOfBounds("marked 4", () -> gas.marked(4));
+    }
+
+    private static void refusedInOrder() {
+        SixWayGas gas = new SixWayGas(8, 8);
+        gas.set(1, 1, 127);
+        for (int wrong : new int[] {-1, 0, Integer.MIN_VALUE, Integer.MAX_VALUE}) {
+            DUE.outOfBounds("marked " + wrong, () -> gas.marked(wrong));
+        }
+        for (int kind : new int[] {-1, 7, 32, 33, Integer.MIN_VALUE, Integer.MAX_VALUE}) {
+            DUE.badArgument("mark of kind " + kind, () -> gas.mark(1, 1, kind));
+            DUE.outOfBounds("mark outside of kind " + kind, () -> gas.mark(8, 1, kind));
+        }
+        noElement(gas);
+        gas.mark(1, 1, 2);
+        DUE.badState("mark twice", () -> gas.mark(1, 1, 2));
+        DUE.outOfBounds("marked 1 when there is one", () -> gas.marked(1));
+        for (int kind = 3; kind < 6; kind++) {
+            DUE.equal("marks behind refused ones", gas.mark(1, 1, kind), kind - 2);
+        }
+        DUE.outOfBounds("five: outside", () -> gas.mark(1, 8, 0));
+        DUE.badArgument("five: kind", () -> gas.mark(1, 1, 7));
+        noElement(gas);
+        DUE.badState("five: marked already", () -> gas.mark(1, 1, 5));
+        DUE.thrown("five", "UnsupportedOperationException", () -> gas.mark(1, 1, 6));
+        DUE.outOfBounds("marked 4 when there are four", () -> gas.marked(4));
+    }
+
+    private static void noElement(SixWayGas gas) {
+        for (int kind = 0; kind < 7; kind++) {
+            int asked = kind;
+            DUE.thrown("mark of nothing, kind " + kind, "NoSuchElementException", () -> gas.mark(2, 2, asked));
+        }
+    }
+
+    private static void lostOnesCount() {
+        SixWayGas gas = new SixWayGas(8, 8);
+        for (int i = 0; i < 4; i++) {
+            gas.set(3, 3, 1);
+            DUE.equal("mark of a new particle", gas.mark(3, 3, 0), i);
+        }
+        gas.set(3, 3, 1);
+        for (int i = 0; i < 4; i++) {
+            DUE.equal("lost", gas.marked(i), SixWayGas.NONE);
+        }
+        DUE.thrown("four lost ones", "UnsupportedOperationException", () -> gas.mark(3, 3, 0));
+        gas.step(9);
+        for (int i = 0; i < 4; i++) {
+            DUE.equal("still lost", gas.marked(i), SixWayGas.NONE);
+        }
+    }
+
+    private static void flightAndWalls() {
+        SixWayGas gas = new SixWayGas(8, 8);
+        gas.set(7, 7, 32);
+        gas.set(3, 3, 64);
+        gas.set(2, 5, 1);
+        gas.wall(3, 5, true);
+        gas.mark(7, 7, 5);
+        gas.mark(3, 3, 6);
+        gas.mark(2, 5, 0);
+        gas.step(1);
+        DUE.equal("flown round the corner", gas.marked(0), place(0, 0, 5));
+        DUE.equal("rests", gas.marked(1), place(3, 3, 6));
+        DUE.equal("bounced", gas.marked(2), place(3, 5, 3));
+        gas.step(1);
+        DUE.equal("flown off", gas.marked(2), place(2, 5, 3));
+        gas.wall(3, 3, true);
+        gas.step(1);
+        DUE.equal("rests in a wall", gas.marked(1), place(3, 3, 6));
+    }
+
+    private static void meetings() {
+        // 65 (kinds 0, 6) becomes 34 (1, 5): 0 -> 1, 6 -> 5.
+        SixWayGas gas = new SixWayGas(8, 8);
+        gas.set(4, 4, 65);
+        gas.mark(4, 4, 6);
+        gas.mark(4, 4, 0);
+        gas.step(1);
+        DUE.equal("6 became 5", gas.marked(0), place(4, 5, 5));
+        DUE.equal("0 became 1", gas.marked(1), place(4, 3, 1));
+        // 36 (2, 5) becomes 9 (0, 3) in sense 0, so that 2 -> 0 and 5 -> 3.
+        SixWayGas turned = new SixWayGas(8, 8);
+        turned.set(4, 4, 36);
+        turned.set(2, 2, 3);
+        turned.mark(4, 4, 5);
+        turned.mark(4, 4, 2);
+        turned.mark(2, 2, 1);
+        turned.step(1);
+        DUE.equal("5 became 3", turned.marked(0), place(3, 4, 3));
+        DUE.equal("2 became 0", turned.marked(1), place(5, 4, 0));
+        DUE.equal("no change", turned.marked(2), place(2, 1, 1));
+    }
+
+    private static void back() {
+        SixWayGas gas = new SixWayGas(6, 6);
+        int[] bits = {65, 36, 21, 42, 34, 9, 54, 127, 100, 3, 80};
+        for (int i = 0; i < 36; i++) {
+            gas.set(i % 6, i / 6, bits[i % bits.length]);
+        }
+        gas.wall(2, 3, true);
+        gas.wall(5, 0, true);
+        int[] places = {place(0, 0, 6), place(1, 0, 5), place(4, 0, 1), place(2, 0, 4)};
+        gas.mark(0, 0, 6);
+        gas.mark(1, 0, 5);
+        gas.mark(4, 0, 1);
+        gas.mark(2, 0, 4);
+        for (int steps = 1; steps < 40; steps++) {
+            gas.step(steps);
+            gas.back(steps);
+            for (int i = 0; i < 4; i++) {
+                DUE.equal("mark " + i + " after " + steps + " there and back", gas.marked(i), places[i]);
+            }
+        }
+    }
+
+    private static void set() {
+        SixWayGas gas = new SixWayGas(8, 8);
+        gas.set(1, 1, 3);
+        gas.set(2, 1, 3);
+        gas.mark(1, 1, 0);
+        gas.mark(2, 1, 1);
+        DUE.badArgument("set refused", () -> gas.set(1, 1, 128));
+        DUE.equal("not lost by a refused set", gas.marked(0), place(1, 1, 0));
+        gas.set(1, 1, 3);
+        DUE.equal("lost by the same bits", gas.marked(0), SixWayGas.NONE);
+        DUE.equal("the other is not", gas.marked(1), place(2, 1, 1));
+        DUE.equal("can be marked anew", gas.mark(1, 1, 0), 2);
+        gas.set(2, 1, 0);
+        DUE.equal("lost by no bits", gas.marked(1), SixWayGas.NONE);
+    }
+
+    private static void sinks() {
+        SixWayGas gas = new SixWayGas(8, 8);
+        gas.sink(4, 4, true);
+        gas.set(3, 4, 1);
+        gas.set(4, 4, 64 | 1);
+        gas.mark(3, 4, 0);
+        gas.mark(4, 4, 6);
+        gas.mark(4, 4, 0);
+        gas.step(1);
+        DUE.equal("flown into the sink", gas.marked(0), SixWayGas.NONE);
+        DUE.equal("met and flew off", gas.marked(1), place(4, 5, 5));
+        DUE.equal("met and flew off, too", gas.marked(2), place(4, 3, 1));
+        gas.set(4, 4, 64);
+        gas.mark(4, 4, 6);
+        gas.step(1);
+        DUE.equal("rested in the sink", gas.marked(3), SixWayGas.NONE);
+    }
+
+    private static void exchange() {
+        SixWayGas gas = new SixWayGas(8, 8);
+        gas.mass(2);
+        gas.body(4, 4, true);
+        gas.set(3, 4, 1);
+        gas.set(4, 4, 64);
+        gas.set(5, 4, 64);
+        gas.mark(3, 4, 0);
+        gas.mark(4, 4, 6);
+        gas.mark(5, 4, 6);
+        gas.step(1);
+        DUE.equal("the body moved", gas.account(2), 1);
+        DUE.equal("bounced and changed places", gas.marked(0), place(5, 4, 3));
+        DUE.equal("rested in the body", gas.marked(1), place(5, 4, 6));
+        DUE.equal("rested before the body", gas.marked(2), place(4, 4, 6));
+    }
+}
