@@ -241,7 +241,7 @@ public final class SixWayGas {
         for (int cell : grid.cells) {
             int here = cellBits[cell];
             flownBits[cell] |= here & Particles.RESTING;
-            // Most cells are empty in most runs: these need no look at each kind.
+            // An empty cell needs no look at each kind.
             for (int kind = 0; here != 0 && kind < DIRECTIONS; kind++) {
                 if (Particles.has(here, kind)) {
                     flownBits[grid.neighbour(cell, kind + turn)] |= 1 << kind;
