@@ -7,9 +7,12 @@ public final class CellsTest {
         newObject();
         setAndGet();
         refusedCells();
+        firstAndLastCells();
         sums();
+        everyRectangle();
         refusedSums();
         checks();
+        fullGrid();
         DUE.end();
     }
 
@@ -95,6 +98,63 @@ public final class CellsTest {
         DUE.equal("no source, sink or body came", gas.back(0), 0);
     }
 
+    /** The cells just inside the grid are taken by every call for a cell, on all sizes. */
+    private static void firstAndLastCells() {
+        for (int w = 4; w <= 16; w += 2) {
+            for (int h = 4; h <= 16; h += 2) {
+                SixWayGas gas = new SixWayGas(w, h);
+                takesEveryCall(gas, 0, 0);
+                takesEveryCall(gas, w - 1, 0);
+                takesEveryCall(gas, 0, h - 1);
+                takesEveryCall(gas, w - 1, h - 1);
+            }
+        }
+    }
+
+    private static void takesEveryCall(SixWayGas gas, int x, int y) {
+        String name = " at " + x + ", " + y;
+        gas.set(x, y, 127);
+        DUE.equal("get" + name, gas.get(x, y), 127);
+        DUE.equal("marked" + name, gas.marked(gas.mark(x, y, 6)), Hex.place(x, y, 6));
+        DUE.equal("sum" + name, gas.sum(x, y, 1, 1, 0), 7);
+        DUE.yes("wall" + name, gas.wall(x, y, true) && gas.wall(x, y, false));
+        gas.source(x, y, 256);
+        DUE.equal("edge" + name, gas.edge(x, y), 2);
+        gas.source(x, y, 0);
+        DUE.yes("sink" + name, gas.sink(x, y, true) && gas.sink(x, y, false));
+        DUE.yes("body" + name, gas.body(x, y, true) && gas.body(x, y, false));
+    }
+
+    /** Rectangles of all widths and heights from all cells, those just outside among them. */
+    private static void everyRectangle() {
+        for (int x = 0; x < 4; x++) {
+            for (int y = 0; y < 6; y++) {
+                everyRectangleFrom(x, y);
+            }
+        }
+    }
+
+    private static void everyRectangleFrom(int x, int y) {
+        SixWayGas gas = new SixWayGas(4, 6);
+        for (int i = 0; i < 24; i++) {
+            gas.set(i % 4, i / 4, 127);
+        }
+        for (int w = -1; w <= 5; w++) {
+            for (int h = -1; h <= 7; h++) {
+                isRectangle(gas, x, y, w, h, w > 0 && h > 0 && x + w <= 4 && y + h <= 6);
+            }
+        }
+    }
+
+    private static void isRectangle(SixWayGas gas, int x, int y, int w, int h, boolean isOne) {
+        String name = "sum of " + x + ", " + y + ", " + w + ", " + h;
+        if (isOne) {
+            DUE.equal(name, gas.sum(x, y, w, h, 0), 7 * w * h);
+        } else {
+            DUE.outOfBounds(name, () -> gas.sum(x, y, w, h, 0));
+        }
+    }
+
     private static void sums() {
         int[][] momentum = {{1, 0}, {0, 1}, {-1, 1}, {-1, 0}, {0, -1}, {1, -1}, {0, 0}};
         SixWayGas gas = new SixWayGas(8, 6);
@@ -149,5 +209,24 @@ public final class CellsTest {
         DUE.equal("check of three cells", gas.check(), 3 + 127 * 244 + 64 * 19);
         gas.set(0, 0, 0);
         DUE.equal("check less the first", gas.check(), 127 * 244 + 64 * 19);
+    }
+
+    /** The most particles that there can be: 7 in each of 256 cells. */
+    private static void fullGrid() {
+        SixWayGas gas = new SixWayGas(16, 16);
+        for (int i = 0; i < 256; i++) {
+            gas.set(i % 16, i / 16, 127);
+        }
+        DUE.equal("number of a full grid", gas.sum(0, 0, 16, 16, 0), 1792);
+        DUE.equal("first momentum of a full grid", gas.sum(0, 0, 16, 16, 1), 0);
+        DUE.equal("check of a full grid", gas.check(), 127 * (256 * 257 / 2));
+        gas.step(3);
+        DUE.equal("check of a full grid, later", gas.check(), 127 * (256 * 257 / 2));
+        SixWayGas flat = new SixWayGas(16, 16);
+        for (int i = 0; i < 256; i++) {
+            flat.set(i % 16, i / 16, 33);
+        }
+        DUE.equal("most momentum", flat.sum(0, 0, 16, 16, 1), 512);
+        DUE.equal("least momentum", flat.sum(0, 0, 16, 16, 2), -256);
     }
 }

@@ -6,6 +6,8 @@ public final class EdgesTest {
         onAndOff();
         oneOfThese();
         sourceRates();
+        behindABodyThatMoved();
+        bitsAndEdgesAreTwoThings();
         DUE.end();
     }
 
@@ -78,5 +80,39 @@ public final class EdgesTest {
         gas.source(1, 1, 0);
         DUE.equal("edge of rate 0", gas.edge(1, 1), 0);
         DUE.equal("its particles stay", gas.get(1, 1), 127);
+    }
+
+    /** Which cells are the body's is what its move made of it: what is new goes by that. */
+    private static void behindABodyThatMoved() {
+        SixWayGas gas = new SixWayGas(8, 8);
+        gas.mass(2);
+        gas.body(4, 4, true);
+        gas.set(3, 4, 1);
+        gas.step(1);
+        DUE.badState("wall where the body is now", () -> gas.wall(5, 4, true));
+        DUE.badState("source where the body is now", () -> gas.source(5, 4, 1));
+        DUE.badState("sink where the body is now", () -> gas.sink(5, 4, true));
+        DUE.no("the body where it is now", gas.body(5, 4, true));
+        DUE.no("no body where it was", gas.body(4, 4, false));
+        DUE.yes("wall where the body was", gas.wall(4, 4, true));
+        DUE.badState("the body where a wall is now", () -> gas.body(4, 4, true));
+        DUE.yes("no body where it is now", gas.body(5, 4, false));
+        DUE.equal("edge then", gas.edge(5, 4), 0);
+        DUE.equal("the particle stays", gas.get(5, 4), 8);
+    }
+
+    /** An edge comes and goes without a change of particles, marks or books. */
+    private static void bitsAndEdgesAreTwoThings() {
+        for (int sort = 0; sort < 4; sort++) {
+            SixWayGas gas = new SixWayGas(4, 4);
+            gas.set(2, 3, 127);
+            gas.mark(2, 3, 4);
+            for (int i = 0; i < 4; i++) {
+                SORTS[sort].put(gas, i % 2 == 0);
+                DUE.equal("bits, sort " + sort, gas.get(2, 3), 127);
+                DUE.equal("mark, sort " + sort, gas.marked(0), Hex.place(2, 3, 4));
+                DUE.equal("book, sort " + sort, gas.book(sort, 0), 0);
+            }
+        }
     }
 }

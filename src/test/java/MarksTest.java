@@ -6,11 +6,20 @@ public final class MarksTest {
         numbers();
         refusedInOrder();
         lostOnesCount();
+        firstAndLastPlaces();
+        severalInOneCell();
+        markedWhereItIsNow();
+        lostAndMarkedAnew();
         flightAndWalls();
+        everyKindInWalls();
+        inSources();
         meetings();
         back();
         set();
+        setWithEveryBits();
         sinks();
+        everyKindInSinks();
+        sinkNoMore();
         exchange();
         DUE.end();
     }
@@ -81,6 +90,105 @@ public final class MarksTest {
         for (int i = 0; i < 4; i++) {
             DUE.equal("still lost", gas.marked(i), SixWayGas.NONE);
         }
+    }
+
+    /** "128 * y + 8 * x + its kind": 0 is the least, 2046 the greatest. */
+    private static void firstAndLastPlaces() {
+        SixWayGas gas = new SixWayGas(16, 16);
+        gas.set(0, 0, 127);
+        gas.set(15, 15, 127);
+        gas.mark(0, 0, 0);
+        gas.mark(15, 15, 6);
+        gas.mark(0, 0, 6);
+        gas.mark(15, 15, 0);
+        DUE.equal("the first place", gas.marked(0), 0);
+        DUE.equal("the last place", gas.marked(1), 2046);
+        DUE.equal("the last kind of the first cell", gas.marked(2), 6);
+        DUE.equal("the first kind of the last cell", gas.marked(3), 2040);
+    }
+
+    /** The marks on a full cell part, and come together again when the step is taken back. */
+    private static void severalInOneCell() {
+        SixWayGas gas = new SixWayGas(4, 4);
+        gas.set(1, 1, 127);
+        for (int kind = 0; kind < 4; kind++) {
+            DUE.equal("mark of kind " + kind, gas.mark(1, 1, kind), kind);
+        }
+        gas.step(1);
+        DUE.equal("kind 0", gas.marked(0), place(2, 1, 0));
+        DUE.equal("kind 1", gas.marked(1), place(2, 0, 1));
+        DUE.equal("kind 2", gas.marked(2), place(1, 0, 2));
+        DUE.equal("kind 3", gas.marked(3), place(0, 1, 3));
+        gas.back(1);
+        for (int kind = 0; kind < 4; kind++) {
+            DUE.equal("kind " + kind + " again", gas.marked(kind), place(1, 1, kind));
+        }
+    }
+
+    /** "IllegalStateException when it has a mark already": where it is now, not where it was. */
+    private static void markedWhereItIsNow() {
+        SixWayGas gas = new SixWayGas(8, 8);
+        gas.set(3, 4, 1);
+        gas.mark(3, 4, 0);
+        gas.step(1);
+        DUE.badState("where it is now", () -> gas.mark(4, 4, 0));
+        DUE.thrown("where it was", "NoSuchElementException", () -> gas.mark(3, 4, 0));
+        gas.set(3, 4, 1);
+        DUE.equal("another where it was", gas.mark(3, 4, 0), 1);
+        gas.back(1);
+        DUE.badState("where it is again", () -> gas.mark(3, 4, 0));
+        DUE.badState("where the other came from", () -> gas.mark(2, 4, 0));
+    }
+
+    /** A lost mark stays lost though a new particle is in the place, and that one can get a mark of its own. */
+    private static void lostAndMarkedAnew() {
+        SixWayGas gas = new SixWayGas(8, 8);
+        gas.set(0, 0, 127);
+        for (int mark = 0; mark < 3; mark++) {
+            DUE.equal("mark of kind 0", gas.mark(0, 0, 0), mark);
+            gas.set(0, 0, 127);
+        }
+        DUE.equal("the last one", gas.mark(0, 0, 0), 3);
+        DUE.equal("lost", gas.marked(2), SixWayGas.NONE);
+        DUE.equal("not lost", gas.marked(3), 0);
+        DUE.badState("marked, and four", () -> gas.mark(0, 0, 0));
+        DUE.thrown("not marked, and four", "UnsupportedOperationException", () -> gas.mark(0, 0, 1));
+        gas.step(1);
+        DUE.equal("lost a step later", gas.marked(2), SixWayGas.NONE);
+        DUE.equal("not lost a step later", gas.marked(3), place(1, 0, 0));
+        gas.back(2);
+        DUE.equal("lost a step before", gas.marked(2), SixWayGas.NONE);
+        DUE.equal("not lost a step before", gas.marked(3), place(7, 0, 0));
+    }
+
+    private static void everyKindInWalls() {
+        for (int kind = 0; kind < 7; kind++) {
+            SixWayGas gas = new SixWayGas(8, 8);
+            gas.wall(4, 4, true);
+            Hex.arrive(gas, 4, 4, 127, 8, 8);
+            int[] from = kind == 6 ? new int[] {4, 4} : Hex.neighbour(4, 4, kind + 3, 8, 8);
+            gas.mark(from[0], from[1], kind);
+            gas.step(1);
+            int turned = kind == 6 ? 6 : (kind + 3) % 6;
+            DUE.equal("kind " + kind + " in a wall", gas.marked(0), place(4, 4, turned));
+            gas.back(1);
+            DUE.equal("kind " + kind + " back from a wall", gas.marked(0), place(from[0], from[1], kind));
+        }
+    }
+
+    /** What a source gives has no mark, and what was there keeps its own. */
+    private static void inSources() {
+        SixWayGas gas = new SixWayGas(8, 8);
+        gas.source(4, 4, 256);
+        gas.set(3, 4, 1);
+        gas.set(4, 4, 64);
+        gas.mark(3, 4, 0);
+        gas.mark(4, 4, 6);
+        gas.step(1);
+        DUE.equal("flown into a source", gas.marked(0), place(4, 4, 0));
+        DUE.equal("rests in a source", gas.marked(1), place(4, 4, 6));
+        DUE.equal("given by a source", gas.mark(4, 4, 1), 2);
+        DUE.badState("not given by it", () -> gas.mark(4, 4, 0));
     }
 
     private static void flightAndWalls() {
@@ -161,6 +269,50 @@ public final class MarksTest {
         DUE.equal("can be marked anew", gas.mark(1, 1, 0), 2);
         gas.set(2, 1, 0);
         DUE.equal("lost by no bits", gas.marked(1), SixWayGas.NONE);
+    }
+
+    /** "for set: the cell has other or the same bits": all of them lose all marks there. */
+    private static void setWithEveryBits() {
+        for (int bits = 0; bits <= 127; bits++) {
+            SixWayGas gas = new SixWayGas(4, 4);
+            gas.set(3, 3, 127);
+            gas.set(2, 3, 127);
+            gas.mark(3, 3, 0);
+            gas.mark(3, 3, 6);
+            gas.mark(2, 3, 6);
+            gas.set(3, 3, bits);
+            DUE.equal("first behind set " + bits, gas.marked(0), SixWayGas.NONE);
+            DUE.equal("second behind set " + bits, gas.marked(1), SixWayGas.NONE);
+            DUE.equal("the other cell's behind set " + bits, gas.marked(2), place(2, 3, 6));
+        }
+    }
+
+    private static void everyKindInSinks() {
+        for (int kind = 0; kind < 7; kind++) {
+            SixWayGas gas = new SixWayGas(8, 8);
+            gas.sink(4, 4, true);
+            Hex.arrive(gas, 4, 4, 127, 8, 8);
+            int[] from = kind == 6 ? new int[] {4, 4} : Hex.neighbour(4, 4, kind + 3, 8, 8);
+            gas.mark(from[0], from[1], kind);
+            gas.set(0, 0, 64);
+            gas.mark(0, 0, 6);
+            gas.step(1);
+            DUE.equal("kind " + kind + " in a sink", gas.marked(0), SixWayGas.NONE);
+            DUE.equal("not in a sink", gas.marked(1), place(0, 0, 6));
+        }
+    }
+
+    private static void sinkNoMore() {
+        SixWayGas gas = new SixWayGas(8, 8);
+        gas.sink(4, 4, true);
+        gas.set(4, 4, 64);
+        gas.mark(4, 4, 6);
+        DUE.equal("a sink takes nothing before a step", gas.marked(0), place(4, 4, 6));
+        gas.step(0);
+        DUE.equal("nor by no steps", gas.marked(0), place(4, 4, 6));
+        gas.sink(4, 4, false);
+        gas.step(2);
+        DUE.equal("nor when it is none any more", gas.marked(0), place(4, 4, 6));
     }
 
     private static void sinks() {

@@ -4,7 +4,10 @@ public final class StepTest {
 
     public static void main(String[] args) {
         times();
+        severalStepsAreSingleSteps();
+        mostCalls();
         flight();
+        flightAllAtOnce();
         meetings();
         noMeetingInWalls();
         walls();
@@ -28,6 +31,50 @@ public final class StepTest {
         DUE.equal("time behind refused steps", gas.step(0), 65);
     }
 
+    /** Every number of steps that may be asked for is as many single steps. */
+    private static void severalStepsAreSingleSteps() {
+        for (int n = 0; n <= 64; n++) {
+            SixWayGas atOnce = crowded();
+            SixWayGas oneByOne = crowded();
+            DUE.equal("step " + n, atOnce.step(n), n);
+            for (int i = 0; i < n; i++) {
+                DUE.equal("step 1", oneByOne.step(1), i + 1);
+            }
+            DUE.equal("check behind step " + n, atOnce.check(), oneByOne.check());
+            DUE.equal("moves behind step " + n, atOnce.account(2), oneByOne.account(2));
+            DUE.equal("book behind step " + n, atOnce.book(1, 0), oneByOne.book(1, 0));
+        }
+    }
+
+    private static SixWayGas crowded() {
+        SixWayGas gas = new SixWayGas(6, 6);
+        gas.mass(4);
+        for (int i = 0; i < 36; i++) {
+            gas.set(i % 6, i / 6, (29 * i + 3) % 128);
+        }
+        gas.source(0, 0, 50);
+        gas.sink(3, 5, true);
+        gas.body(2, 2, true);
+        gas.body(3, 2, true);
+        gas.wall(5, 1, true);
+        return gas;
+    }
+
+    /** "An object is used for at most 512 calls": the dearest ones, and the last still answers. */
+    private static void mostCalls() {
+        SixWayGas gas = new SixWayGas(16, 16);
+        gas.source(0, 0, 256);
+        gas.source(15, 15, 256);
+        gas.sink(8, 0, true);
+        gas.body(8, 8, true);
+        gas.mass(1);
+        for (int calls = 6; calls < 511; calls++) {
+            DUE.equal("call " + calls, gas.step(64), 64 * (calls - 5));
+        }
+        DUE.yes("the last call but one", gas.account(2) > 0);
+        DUE.equal("the last call", gas.step(64), 64 * 506);
+    }
+
     private static void flight() {
         int[][] even = {{2, 2}, {1, 1}, {0, 1}, {0, 2}, {0, 3}, {1, 3}, {1, 2}};
         int[][] odd = {{2, 1}, {2, 0}, {1, 0}, {0, 1}, {1, 2}, {2, 2}, {1, 1}};
@@ -48,6 +95,23 @@ public final class StepTest {
         String name = "flight of kind " + kind + " from " + x + ", " + y;
         DUE.equal(name, gas.get(to[0], to[1]), 1 << kind);
         DUE.equal(name + " number", gas.sum(0, 0, 4, 6, 0), 1);
+    }
+
+    /** "all at once": two that fly towards each other from cell to cell change their cells and do not meet. */
+    private static void flightAllAtOnce() {
+        SixWayGas gas = new SixWayGas(8, 8);
+        gas.set(3, 4, 1);
+        gas.set(4, 4, 8);
+        gas.step(1);
+        DUE.equal("one to the right", gas.get(4, 4), 1);
+        DUE.equal("one to the left", gas.get(3, 4), 8);
+        SixWayGas row = new SixWayGas(4, 4);
+        for (int x = 0; x < 3; x++) {
+            row.set(x, 1, 1);
+        }
+        row.step(1);
+        DUE.equal("the gap flies, too", row.get(0, 1), 0);
+        DUE.equal("the row flies", row.sum(1, 1, 3, 1, 0), 3);
     }
 
     private static void meetings() {
