@@ -8,6 +8,7 @@ public final class EdgesTest {
         sourceRates();
         behindABodyThatMoved();
         bitsAndEdgesAreTwoThings();
+        setInEverySort();
         DUE.end();
     }
 
@@ -112,6 +113,20 @@ public final class EdgesTest {
                 DUE.equal("bits, sort " + sort, gas.get(2, 3), 127);
                 DUE.equal("mark, sort " + sort, gas.marked(0), Hex.place(2, 3, 4));
                 DUE.equal("book, sort " + sort, gas.book(sort, 0), 0);
+            }
+        }
+    }
+
+    /** Any cell gets bits, whatever it is, and stays what it is. */
+    private static void setInEverySort() {
+        for (int sort = 0; sort < 4; sort++) {
+            SixWayGas gas = new SixWayGas(4, 4);
+            SORTS[sort].put(gas, true);
+            for (int bits : new int[] {0, 1, 64, 127}) {
+                gas.set(2, 3, bits);
+                DUE.equal("bits " + bits + " set in sort " + sort, gas.get(2, 3), bits);
+                DUE.equal("edge behind bits set in sort " + sort, gas.edge(2, 3), sort + 1);
+                DUE.equal("book behind bits set in sort " + sort, gas.book(sort, 0), 0);
             }
         }
     }

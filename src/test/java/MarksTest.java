@@ -10,6 +10,7 @@ public final class MarksTest {
         severalInOneCell();
         markedWhereItIsNow();
         lostAndMarkedAnew();
+        lostWhateverHappens();
         flightAndWalls();
         everyKindInWalls();
         inSources();
@@ -159,6 +160,69 @@ public final class MarksTest {
         gas.back(2);
         DUE.equal("lost a step before", gas.marked(2), SixWayGas.NONE);
         DUE.equal("not lost a step before", gas.marked(3), place(7, 0, 0));
+    }
+
+    /** Whatever happens in whichever cell, a mark that is lost comes to no particle again. */
+    private static void lostWhateverHappens() {
+        for (int i = 0; i < 16; i++) {
+            int x = i % 4;
+            int y = i / 4;
+            meetsWithALostMark(x, y);
+            bouncesWithALostMark(x, y);
+            changesPlacesWithALostMark(x, y);
+        }
+    }
+
+    /** A mark that was lost in (1, 1), and a grid without particles. */
+    private static SixWayGas withALostMark() {
+        SixWayGas gas = new SixWayGas(4, 4);
+        gas.set(1, 1, 127);
+        gas.mark(1, 1, 3);
+        gas.set(1, 1, 0);
+        return gas;
+    }
+
+    private static void meetsWithALostMark(int x, int y) {
+        for (int bits : new int[] {9, 21, 65, 34, 127}) {
+            SixWayGas gas = withALostMark();
+            gas.set(x, y, bits);
+            gas.step(1);
+            DUE.equal("lost when " + bits + " meet in " + x + ", " + y, gas.marked(0), SixWayGas.NONE);
+            gas.back(2);
+            DUE.equal("lost when they are taken back", gas.marked(0), SixWayGas.NONE);
+        }
+    }
+
+    private static void bouncesWithALostMark(int x, int y) {
+        SixWayGas gas = withALostMark();
+        gas.wall(x, y, true);
+        gas.set(x, y, 127);
+        gas.step(2);
+        DUE.equal("lost when a wall in " + x + ", " + y + " is hit", gas.marked(0), SixWayGas.NONE);
+        gas.wall(x, y, false);
+        gas.source(x, y, 256);
+        gas.step(1);
+        DUE.equal("lost when a source gives", gas.marked(0), SixWayGas.NONE);
+        gas.source(x, y, 0);
+        gas.sink(x, y, true);
+        gas.step(1);
+        DUE.equal("lost when a sink takes", gas.marked(0), SixWayGas.NONE);
+    }
+
+    private static void changesPlacesWithALostMark(int x, int y) {
+        SixWayGas gas = withALostMark();
+        gas.mass(2);
+        gas.body(x, y, true);
+        gas.set((x + 3) % 4, y, 1);
+        gas.set((x + 1) % 4, y, 64);
+        gas.step(1);
+        DUE.equal("the body moved from " + x + ", " + y, gas.account(2), 1);
+        DUE.equal("lost when it moves", gas.marked(0), SixWayGas.NONE);
+        gas.set(x, y, 64);
+        gas.set((x + 2) % 4, y, 8);
+        gas.step(1);
+        DUE.equal("the body moved to " + x + ", " + y, gas.account(2), 2);
+        DUE.equal("lost when it moves back", gas.marked(0), SixWayGas.NONE);
     }
 
     private static void everyKindInWalls() {

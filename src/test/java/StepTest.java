@@ -263,7 +263,7 @@ public final class StepTest {
         gas.body(6, 2, true);
         gas.body(7, 7, true);
         gas.mass(2);
-        for (int i = 0; i < 30; i++) {
+        for (int i = 0; i < 25; i++) {
             gas.step(3);
             for (int field = 0; field < 3; field++) {
                 int given = gas.book(0, field) + gas.book(1, field) + gas.book(2, field) + gas.book(3, field);
